@@ -452,9 +452,9 @@ public final class PinModule {
     /** Terminals with their registers and first keys (ANSI X9.24-1). */
     private static final class Terminals {
         static final int COUNT = 8;
-        static final int LAST_COUNTER = (1 << 21) - 1;
 
         private static final int COUNTER_BITS = 21;
+        static final int LAST_COUNTER = (1 << COUNTER_BITS) - 1;
         private static final int MOST_ONES = 10;
         private static final long GREATEST_SERIAL = (1L << 43) - 1;
         private static final long SERIAL_FRONT = 0xffffL << 48;
