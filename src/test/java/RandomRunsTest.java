@@ -5,7 +5,7 @@ import java.util.function.LongSupplier;
 public final class RandomRunsTest {
     private static final int RUNS = 300;
     /** Five peeks follow each call, and an object is used for 512 calls at most. */
-    private static final int CALLS = 80;
+    private static final int CALLS = 70;
     private static final long THROWN_ARGUMENT = Long.MIN_VALUE;
     private static final long THROWN_STATE = Long.MIN_VALUE + 1;
     private static final int[] FORMATS = {0, 1, 3};
