@@ -221,7 +221,7 @@ public final class RandomRunsTest {
         long account = account();
         long pin = digits(length);
         long fill = fill();
-        int offset = (int) digits(4);
+        int offset = random.nextInt(4) == 0 ? random.nextInt(1 << 16) : (int) digits(4);
         int slot = slotOf(3);
         switch (kind) {
             case 0, 1, 2, 3:
