@@ -25,7 +25,6 @@ public final class PinModule {
     private static final int KEY_BLOCK_BYTES = 40;
     private static final int ACCOUNT_DIGITS = 16;
     private static final int OFFSET_DIGITS = 4;
-    private static final int GREATEST_OFFSET = 65535;
 
     /** A terminal's key has its number behind those of the slots. */
     private static final int FIRST_TERMINAL = Slots.COUNT;
@@ -282,7 +281,7 @@ public final class PinModule {
         int slot = how >> 4;
         int format = how & 15;
         if (!isKeyNumber(k) || !Slots.isNumber(slot) || !PinBlock.isFormat(format)
-                || !areDigits(account, ACCOUNT_DIGITS) || offset < 0 || offset > GREATEST_OFFSET) {
+                || !areDigits(account, ACCOUNT_DIGITS) || !areDigits(offset, OFFSET_DIGITS)) {
             return BAD_NUMBER;
         }
         if (!hasKey(k) || !slots.filled[slot]) {

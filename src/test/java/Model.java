@@ -302,7 +302,7 @@ final class Model {
         int slot = Math.floorDiv(how, 16);
         int format = Math.floorMod(how, 16);
         Refusal refusal = new Refusal().keyNumber(k).slotNumber(slot).when(!isFormat(format), -2)
-                .when(!isAccount(account), -2).when(offset >> 16 != 0, -2)
+                .when(!isAccount(account), -2).when(!isOffset(offset), -2)
                 .keyIsThere(k).keyIsThere(slot).usageIs(k, 0).usageIs(slot, 3);
         if (refusal.any()) {
             return refusal.first;
@@ -311,18 +311,22 @@ final class Model {
         return pin != null && pin.equals(rightPin(slots.get(slot), account, Hex.of(offset).substring(12))) ? 0 : -6;
     }
 
+    private static boolean isOffset(int offset) {
+        return Hex.of(offset).matches("0{12}[0-9]{4}");
+    }
+
     private static String rightPin(Slot key, long account, String offset) {
         String sealed = Hex.of(Jce.sealed(key.left, key.right, account));
         String pin = "";
         for (int i = 0; i < 4; i++) {
-            pin += (Character.digit(sealed.charAt(i), 16) % 10 + Character.digit(offset.charAt(i), 16)) % 10;
+            pin += (Character.digit(sealed.charAt(i), 16) % 10 + Character.digit(offset.charAt(i), 10)) % 10;
         }
         return pin;
     }
 
     /** A PIN that is right, for a run that is to come to one; 0 when there is no such slot. */
     long rightPin(int slot, long account, int offset) {
-        boolean can = slots.containsKey(slot) && isAccount(account) && offset >> 16 == 0;
+        boolean can = slots.containsKey(slot) && isAccount(account) && isOffset(offset);
         return can ? Hex.number(rightPin(slots.get(slot), account, Hex.of(offset).substring(12))) : 0;
     }
 

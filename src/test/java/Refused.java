@@ -157,6 +157,9 @@ record Refused(String call, int due, ToIntFunction<PinModule> run) {
             all.add(new Refused(call + ", account", -2, x -> x.verify(k, how, ACCOUNT | 15, 0)));
             all.add(new Refused(call + ", offset -1", -2, x -> x.verify(k, how, ACCOUNT, -1)));
             all.add(new Refused(call + ", offset 65536", -2, x -> x.verify(k, how, ACCOUNT, 65536)));
+            all.add(new Refused(call + ", offset 65535", -2, x -> x.verify(k, how, ACCOUNT, 65535)));
+            all.add(new Refused(call + ", offset 0xa000", -2, x -> x.verify(k, how, ACCOUNT, 0xa000)));
+            all.add(new Refused(call + ", offset 0x000a", -2, x -> x.verify(k, how, ACCOUNT, 0x000a)));
         }
         for (int slot : new int[] {3, 10, 0}) {
             all.add(new Refused("verify of key -1, slot " + slot, -2, x -> x.verify(-1, 16 * slot, ACCOUNT, 0)));

@@ -10,6 +10,8 @@ public final class VerifyTest {
         due.sentence("Terms: NATURAL PIN: each of 10 and above less 10", VerifyTest::naturalDigits);
         due.sentence("Terms: NATURAL PIN: of the first four fours of bits of the account sealed", VerifyTest::wholeAccount);
         due.sentence("Terms: an offset (4 digits, told as 0 .. 65535 of four bits each)", VerifyTest::offsets);
+        due.sentence("Terms: -2 a number that is not so (of digits as told): an offset's", VerifyTest::offsetDigits);
+        due.sentence("Terms: REFUSALS, the first that holds: -2 before -6 (an offset's)", VerifyTest::offsetBeforeBlock);
         due.sentence("Terms: each the natural one plus the offset's, modulo 10", VerifyTest::moduloTen);
         due.sentence("Terms: when it has four digits (else -6)", VerifyTest::longerPins);
         due.sentence("Promise 18: how: 16 * slot of the OFFSET key + format", VerifyTest::hows);
@@ -86,19 +88,51 @@ public final class VerifyTest {
         }
     }
 
-    /** From the least to the greatest; a digit above 9 counts as it is told, modulo 10. */
+    /** Numbers at both sides of four digits, the least and the greatest. */
     private static void offsets() {
         PinModule x = Made.withKeys();
         for (int offset : new int[] {-1, -65536, 65536, 65537, 0x11234, Integer.MIN_VALUE, Integer.MAX_VALUE}) {
             putRight(x, 0, 3, ACCOUNT, offset & 65535);
             due.is("offset " + offset, x.verify(0, 48, ACCOUNT, offset), -2);
         }
-        for (int offset : new int[] {0, 1, 0x9999, 0x999a, 0xa000, 65534, 65535}) {
+        for (int offset : new int[] {0, 1, 0x9998, 0x9999}) {
             putRight(x, 0, 3, ACCOUNT, offset);
             due.is("offset " + offset, x.verify(0, 48, ACCOUNT, offset), 0);
             x.pin(0, 4, ACCOUNT, Natural.rightPin(3, ACCOUNT, offset) ^ 1, 0);
             due.is("offset " + offset + ", another PIN", x.verify(0, 48, ACCOUNT, offset), -6);
         }
+    }
+
+    /** Each four of bits from 0 to 15 at each place; the PIN is the one that the sum modulo 10 would ask for. */
+    private static void offsetDigits() {
+        PinModule x = Made.withKeys();
+        for (int shift = 0; shift < 16; shift += 4) {
+            for (int four = 0; four < 16; four++) {
+                int offset = four << shift;
+                putRight(x, 0, 3, ACCOUNT, offset);
+                due.is("a " + four + " at " + shift, x.verify(0, 48, ACCOUNT, offset), four < 10 ? 0 : -2);
+            }
+        }
+        for (int offset : new int[] {0x999a, 0xa999, 0xaaaa, 65534, 65535}) {
+            putRight(x, 0, 3, ACCOUNT, offset);
+            due.is("offset " + offset, x.verify(0, 48, ACCOUNT, offset), -2);
+        }
+    }
+
+    /** No digit in the offset, and a block that would be refused too: of another PIN, length, format and key. */
+    private static void offsetBeforeBlock() {
+        PinModule x = Made.withKeys();
+        x.pin(0, 4, ACCOUNT, Natural.rightPin(3, ACCOUNT, 0) ^ 1, 0);
+        dueForOffset(x, "another PIN", 0, 48);
+        dueForOffset(x, "another format", 0, 49);
+        dueForOffset(x, "another key", 4, 48);
+        x.pin(0, 5, ACCOUNT, 0x12345, 0);
+        dueForOffset(x, "five digits", 0, 48);
+    }
+
+    private static void dueForOffset(PinModule x, String block, int k, int how) {
+        due.is(block + ", offset 0", x.verify(k, how, ACCOUNT, 0), -6);
+        due.is(block + ", offset 0xa000", x.verify(k, how, ACCOUNT, 0xa000), -2);
     }
 
     /** Each digit of the PIN with each of the offset: the sums are 0 to 18, and at both sides of 10. */
