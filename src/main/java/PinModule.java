@@ -264,7 +264,8 @@ public final class PinModule {
         if (!isPinKey(from) || !isPinKey(to)) {
             return OTHER_USAGE;
         }
-        long plain = openedPinBlock(from, formatFrom, account);
+        takeKey(from, PIN_KEY_CHANGE);
+        long plain = openedPinBlock(formatFrom, account);
         if (!PinBlock.isOf(formatFrom, plain)) {
             return WRONG_CONTENT;
         }
@@ -290,7 +291,8 @@ public final class PinModule {
         if (!isPinKey(k) || slots.usageOf[slot] != OFFSET_USAGE) {
             return OTHER_USAGE;
         }
-        long plain = openedPinBlock(k, format, account);
+        takeKey(k, PIN_KEY_CHANGE);
+        long plain = openedPinBlock(format, account);
         if (!PinBlock.isOf(format, plain) || PinBlock.lengthOf(plain) != OFFSET_DIGITS) {
             return WRONG_CONTENT;
         }
@@ -363,8 +365,8 @@ public final class PinModule {
         }
     }
 
-    private long openedPinBlock(int k, int format, long account) {
-        takeKey(k, PIN_KEY_CHANGE);
+    /** The buffer's PIN block without the account's part, opened with the key taken last. */
+    private long openedPinBlock(int format, long account) {
         return cipher.openBlock(buffer[0]) ^ PinBlock.accountPart(format, account);
     }
 
